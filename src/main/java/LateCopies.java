@@ -425,7 +425,7 @@ public final class LateCopies {
             }
         }
 
-        private void becomeCopy(World other) {
+        private void takeOver(World other) {
             sites = other.sites;
             now = other.now;
             offSites = other.offSites;
@@ -715,7 +715,7 @@ public final class LateCopies {
         private int seed;
 
         private void run(World start, int firstSeed, boolean rumours) {
-            trial.becomeCopy(start);
+            trial.takeOver(start);
             trial.traffic = 0;
             seed = firstSeed;
             boolean settled = trial.allOnAlike();
