@@ -38,7 +38,6 @@ public final class LateCopies {
         page = new Page();
         world = new World();
         settling = new Settling();
-        linesRead = 0;
     }
 
     // ---- texts
@@ -145,23 +144,20 @@ public final class LateCopies {
     }
 
     public int exchange(int a, int b) {
-        if (!world.knowsSite(a) || !world.knowsSite(b) || a == b) {
-            return UNKNOWN;
-        }
-        if (world.isOff(a) || world.isOff(b)) {
-            return STATE;
-        }
-        return world.compareAll(a, b);
+        int refusal = refusalOfPair(a, b);
+        return refusal != 0 ? refusal : world.compareAll(a, b);
     }
 
     public int rumour(int a, int b) {
+        int refusal = refusalOfPair(a, b);
+        return refusal != 0 ? refusal : world.tellHot(a, b);
+    }
+
+    private int refusalOfPair(int a, int b) {
         if (!world.knowsSite(a) || !world.knowsSite(b) || a == b) {
             return UNKNOWN;
         }
-        if (world.isOff(a) || world.isOff(b)) {
-            return STATE;
-        }
-        return world.tellHot(a, b);
+        return world.isOff(a) || world.isOff(b) ? STATE : 0;
     }
 
     // ---- what is told
@@ -425,16 +421,14 @@ public final class LateCopies {
             }
         }
 
-        private void takeOver(World other) {
+        // SETTLING asks for nothing but TRAFFIC of its own: what was WOKEN, GONE or REMOVED stays behind.
+        private void startTrial(World other) {
             sites = other.sites;
             now = other.now;
             offSites = other.offSites;
-            traffic = other.traffic;
-            woken = other.woken;
-            gone = other.gone;
+            traffic = 0;
             System.arraycopy(other.limits, 0, limits, 0, limits.length);
             System.arraycopy(other.positions, 0, positions, 0, MOST_SITES);
-            System.arraycopy(other.latestRemovals, 0, latestRemovals, 0, KEYS);
             for (int place = 0; place < items.length; place++) {
                 items[place].becomeCopy(other.items[place], other.items[place].heat);
             }
@@ -711,12 +705,10 @@ public final class LateCopies {
     private static final class Settling {
         private final World trial = new World();
         private int rounds;
-        private int traffic;
         private int seed;
 
         private void run(World start, int firstSeed, boolean rumours) {
-            trial.takeOver(start);
-            trial.traffic = 0;
+            trial.startTrial(start);
             seed = firstSeed;
             boolean settled = trial.allOnAlike();
             int played = 0;
@@ -726,7 +718,6 @@ public final class LateCopies {
                 settled = trial.allOnAlike();
             }
             rounds = settled ? played : NONE;
-            traffic = trial.traffic;
         }
 
         private void playRound(boolean rumours) {
@@ -751,7 +742,7 @@ public final class LateCopies {
         private int outcome(int what) {
             switch (what) {
                 case 0: return rounds;
-                case 1: return traffic;
+                case 1: return trial.traffic;
                 default: return seed;
             }
         }

@@ -30,6 +30,7 @@ public final class PromiseTest {
         partner();
         partnerByWeights();
         settle();
+        settleAsPlayed();
         settleChangesNothing();
         count();
         digest();
@@ -160,17 +161,19 @@ public final class PromiseTest {
         due("read", x.count(11), 1);
         x.set(0, 1);
         x.put(0, 0, 1);
+        x.exchange(0, 2);
         x.put(0, 1, 1);
-        x.exchange(0, 1);
         x.remove(0, 0, 1);
         x.exchange(0, 1);
         x.pass(3);
+        x.exchange(0, 2);
         x.off(2, true);
-        x.exchange(0, 1);
         write(x, "3x");
         due("line() of 3x", x.line(), STATE);
         due("the LINE stays", x.count(1), 3);
         due("NOW stays", x.count(2), 6);
+        due("WOKEN", x.count(5), 1);
+        due("GONE", x.count(6), 1);
         read(x, "01");
         int[] counts = {0, 2, 0, 0, 0, 0, 0, 1, 40, 2, 5, 2};
         for (int what = 0; what < counts.length; what++) {
@@ -481,6 +484,11 @@ public final class PromiseTest {
         x.put(3, 0, 9);
         due("a VALUE that is NEWER than a CERTIFICATE", x.exchange(3, 0), 3);
         value(x, 0, 0, 9, 6, 0);
+        LateCopies y = on("000000");
+        due("exchange(4, 5) of nothing", y.exchange(4, 5), 0);
+        y.put(5, 3, 1);
+        due("the last SITE, the last KEY", y.exchange(4, 5), 1);
+        value(y, 4, 3, 1, 1, 0);
     }
 
     private static void exchangeTraffic() {
@@ -649,6 +657,10 @@ public final class PromiseTest {
         value(x, 0, 2, 4, 4, 3);
         value(x, 1, 0, 1, 1, 2);
         value(x, 1, 2, 4, 4, 2);
+        LateCopies y = on("000000");
+        y.put(5, 3, 1);
+        due("the last SITE, the last KEY", y.rumour(5, 4), 1);
+        due("back", y.rumour(4, 5), 0);
     }
 
     private static void rumourWakes() {
@@ -742,6 +754,13 @@ public final class PromiseTest {
         x.pass(40);
         newestOf(x, 0, 0, 0, NONE);
         newestOf(x, 1, NONE, NONE, NONE);
+        read(x, "000000");
+        newestOf(x, 5, NONE, NONE, NONE);
+        x.put(5, 0, 1);
+        x.put(5, 3, 1);
+        newestOf(x, 5, 3, 3, NONE);
+        x.put(1, 0, 1);
+        newestOf(x, 0, NONE, NONE, NONE);
     }
 
     private static void newestOf(LateCopies x, int site, int any, int value, int certificate) {
@@ -820,6 +839,22 @@ public final class PromiseTest {
         x.put(0, 1, 2);
         x.remove(0, 1, 1);
         due("of the latest CERTIFICATE", x.risen(1), 10);
+        x.put(1, 1, 3);
+        x.remove(1, 1, 1);
+        x.put(0, 1, 3);
+        x.put(2, 1, 3);
+        x.remove(2, 1, 1);
+        due("SITE 0, too", x.risen(1), 9);
+        read(x, "000000");
+        for (int site = 0; site < 6; site++) {
+            x.put(site, 3, site);
+        }
+        x.remove(5, 3, 1);
+        due("six SITES", x.risen(3), 31);
+        x.put(5, 3, 1);
+        due("the last SITE", x.risen(3), 31);
+        x.remove(4, 3, 1);
+        due("the last SITE", x.risen(3), 47);
         read(x, "01");
         x.put(0, 1, 2);
         due("of this LINE", x.risen(1), 0);
@@ -942,6 +977,72 @@ public final class PromiseTest {
         outcome(z, 9, true, 1, 2, seedAfter(9, 2));
         z.off(1, true);
         outcome(z, 9, true, 0, 0, 9);
+    }
+
+    /** What settle() tells is what comes of it as its ROUNDS are played with the other calls. */
+    private static void settleAsPlayed() {
+        String[] texts = {"0159", "113377", "000000", "0125", "019", "077889"};
+        for (String text : texts) {
+            for (int seed = 0; seed < 12; seed++) {
+                boolean rumours = seed % 2 == 1;
+                LateCopies x = busy(text);
+                LateCopies twin = busy(text);
+                long[] played = play(twin, seed, rumours);
+                outcome(x, seed, rumours, (int) played[0], (int) played[1], played[2]);
+            }
+        }
+    }
+
+    private static LateCopies busy(String text) {
+        LateCopies x = on(text);
+        int last = text.length() - 1;
+        x.set(0, 3);
+        x.put(last, 0, 1);
+        x.exchange(0, last);
+        x.put(1, 2, 2);
+        x.exchange(1, 2);
+        x.off(2, true);
+        x.remove(0, 0, 2);
+        x.pass(3);
+        x.put(0, 1, 4);
+        x.put(last, 1, 5);
+        x.remove(1, 2, 3);
+        return x;
+    }
+
+    private static long[] play(LateCopies x, int firstSeed, boolean rumours) {
+        int seed = firstSeed;
+        int before = x.count(4);
+        int rounds = 0;
+        while (!allOnAlike(x) && rounds < 40) {
+            x.pass(1);
+            for (int site = 0; site < x.count(1); site++) {
+                if ((x.count(3) >> site & 1) == 1) {
+                    continue;
+                }
+                int other = x.partner(site, seed, 0);
+                seed = x.partner(site, seed, 1);
+                if (rumours) {
+                    x.rumour(site, other);
+                } else {
+                    x.exchange(site, other);
+                }
+            }
+            rounds++;
+        }
+        return new long[] {allOnAlike(x) ? rounds : NONE, x.count(4) - before, seed};
+    }
+
+    private static boolean allOnAlike(LateCopies x) {
+        for (int a = 0; a < x.count(1); a++) {
+            for (int b = 0; b < a; b++) {
+                boolean on = (x.count(3) >> a & 1) == 0 && (x.count(3) >> b & 1) == 0;
+                if (on && x.alike(a, b) == 0) {
+                    return false;
+                }
+            }
+        }
+        return true;
     }
 
     /** NOW goes on in a ROUND: a CERTIFICATE may be GONE by it, also above 9999. */
