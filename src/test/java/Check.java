@@ -31,6 +31,10 @@ final class Check {
         }
     }
 
+    int checks() {
+        return checks;
+    }
+
     int wrong() {
         return wrong;
     }

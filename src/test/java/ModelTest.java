@@ -3,7 +3,9 @@ import java.util.Random;
 /** Runs of drawn calls on a new object and on PlainModel: every answer must be the same, and every digest. */
 public final class ModelTest {
     private static final int RUNS = 1500;
+    /** The document promises nothing of later calls of an object. */
     private static final int CALLS = 512;
+    private static final int MOST_CALLS_A_STEP = 10;
     private static final Check CHECK = new Check("ModelTest");
 
     private final LateCopies x = new LateCopies();
@@ -11,6 +13,7 @@ public final class ModelTest {
     private final Random random;
     private final StringBuilder told = new StringBuilder();
     private final int mood;
+    private int calls = 0;
 
     private ModelTest(long seed) {
         random = new Random(seed);
@@ -25,8 +28,8 @@ public final class ModelTest {
     }
 
     private void play(int run) {
-        for (int n = 0; n < CALLS && CHECK.wrong() == 0; n++) {
-            if (x.count(1) == 0 && n > 20 || random.nextInt(120) == 0) {
+        for (int n = 0; calls + MOST_CALLS_A_STEP <= CALLS && CHECK.wrong() == 0; n++) {
+            if (model.count(1) == 0 && n > 20 || random.nextInt(120) == 0) {
                 readLine();
             } else {
                 call();
@@ -41,6 +44,7 @@ public final class ModelTest {
     }
 
     private void due(String call, long got, long want) {
+        calls++;
         told.append(' ').append(call);
         CHECK.due(call, got, want);
     }
@@ -61,7 +65,7 @@ public final class ModelTest {
     }
 
     private int site() {
-        return near(0, Math.max(0, x.count(1) - 1));
+        return near(0, Math.max(0, model.count(1) - 1));
     }
 
     private int key() {

@@ -1,10 +1,7 @@
 /** Each promise of the document by itself: ordinary inputs, the edges that it names, wrong inputs. */
-public final class PromiseTest {
-    private static final int NONE = -1, UNKNOWN = -1001, OUTSIDE = -1002, STATE = -1003, FULL = -1004;
-    private static final Check CHECK = new Check("PromiseTest");
-    private static String promise = "";
-
+public final class PromiseTest extends Asking {
     public static void main(String[] args) {
+        startChecks("PromiseTest");
         newObject();
         letter();
         blank();
@@ -34,60 +31,13 @@ public final class PromiseTest {
         settleChangesNothing();
         count();
         digest();
-        CHECK.end();
-    }
-
-    private static void due(String call, long got, long want) {
-        CHECK.due(promise + ": " + call, got, want);
-    }
-
-    private static void write(LateCopies x, String text) {
-        x.blank();
-        for (int i = 0; i < text.length(); i++) {
-            x.letter(text.charAt(i));
-        }
-    }
-
-    private static void read(LateCopies x, String text) {
-        write(x, text);
-        due("line() of " + text, x.line(), text.length());
-    }
-
-    private static LateCopies on(String text) {
-        LateCopies x = new LateCopies();
-        read(x, text);
-        return x;
-    }
-
-    /** All that has() tells of a KEY at a SITE: sort, VALUE, STAMP, ACTIVATION, KEEPERS, DORMANT, HEAT. */
-    private static void item(LateCopies x, int site, int key, int... want) {
-        for (int what = 0; what < want.length; what++) {
-            due("has(" + site + ", " + key + ", " + what + ")", x.has(site, key, what), want[what]);
-        }
-    }
-
-    private static void nothing(LateCopies x, int site, int key) {
-        item(x, site, key, 0, NONE, NONE, NONE, NONE, 0, 0);
-    }
-
-    private static void value(LateCopies x, int site, int key, int v, int stamp, int heat) {
-        item(x, site, key, 1, v, stamp, stamp, NONE, 0, heat);
-    }
-
-    /** Lets time pass in steps that pass() takes. */
-    private static void passTo(LateCopies x, int now) {
-        while (x.count(2) < now) {
-            x.pass(Math.min(300, now - x.count(2)));
-        }
+        endChecks();
     }
 
     private static void newObject() {
-        promise = "1 new object";
+        at("1 new object");
         LateCopies x = new LateCopies();
-        int[] counts = {0, 0, 0, 0, 0, 0, 0, 10, 40, 2, 5, 0};
-        for (int what = 0; what < counts.length; what++) {
-            due("count(" + what + ")", x.count(what), counts[what]);
-        }
+        counts(x, 0, 0, 0, 0, 0, 0, 0, 0, 10, 40, 2, 5, 0);
         due("line()", x.line(), STATE);
         due("has(0, 0, 0)", x.has(0, 0, 0), UNKNOWN);
         due("fault()", x.fault(), 0);
@@ -99,7 +49,7 @@ public final class PromiseTest {
     }
 
     private static void letter() {
-        promise = "2 letter";
+        at("2 letter");
         LateCopies x = new LateCopies();
         due("letter(31)", x.letter(31), OUTSIDE);
         due("letter(127)", x.letter(127), OUTSIDE);
@@ -119,7 +69,7 @@ public final class PromiseTest {
     }
 
     private static void blank() {
-        promise = "3 blank";
+        at("3 blank");
         LateCopies x = new LateCopies();
         due("blank()", x.blank(), 0);
         write(x, "x12");
@@ -132,7 +82,7 @@ public final class PromiseTest {
     }
 
     private static void fault() {
-        promise = "4 fault";
+        at("4 fault");
         String[] texts = {"", "0", "9", "00", "10", "98", "99", "0123", "01232", "012a", " 12", "1/2", "1:2",
             "123456", "999999", "123454", "55 555", "0x"};
         int[] places = {0, 1, 1, 2, 1, 1, 2, 4, 4, 3, 0, 1, 1, 6, 6, 5, 2, 1};
@@ -145,7 +95,7 @@ public final class PromiseTest {
     }
 
     private static void line() {
-        promise = "5 line";
+        at("5 line");
         LateCopies x = new LateCopies();
         write(x, "5");
         due("line() of 5", x.line(), STATE);
@@ -175,10 +125,7 @@ public final class PromiseTest {
         due("WOKEN", x.count(5), 1);
         due("GONE", x.count(6), 1);
         read(x, "01");
-        int[] counts = {0, 2, 0, 0, 0, 0, 0, 1, 40, 2, 5, 2};
-        for (int what = 0; what < counts.length; what++) {
-            due("count(" + what + ") of a new LINE", x.count(what), counts[what]);
-        }
+        counts(x, 0, 0, 2, 0, 0, 0, 0, 0, 1, 40, 2, 5, 2);
         for (int key = 0; key < 4; key++) {
             nothing(x, 0, key);
             nothing(x, 1, key);
@@ -191,7 +138,7 @@ public final class PromiseTest {
     }
 
     private static void set() {
-        promise = "6 set";
+        at("6 set");
         int[] least = {1, 0, 1, 0};
         int[] most = {50, 200, 3, 50};
         int[] first = {10, 40, 2, 5};
@@ -248,7 +195,7 @@ public final class PromiseTest {
     }
 
     private static void put() {
-        promise = "7 put";
+        at("7 put");
         LateCopies x = new LateCopies();
         due("put without a LINE", x.put(0, 0, 0), UNKNOWN);
         read(x, "139");
@@ -299,7 +246,7 @@ public final class PromiseTest {
     }
 
     private static void remove() {
-        promise = "8 remove";
+        at("8 remove");
         LateCopies x = new LateCopies();
         due("remove without a LINE", x.remove(0, 0, 1), UNKNOWN);
         read(x, "139");
@@ -358,7 +305,7 @@ public final class PromiseTest {
     }
 
     private static void pass() {
-        promise = "9 pass";
+        at("9 pass");
         LateCopies x = new LateCopies();
         due("pass(1) without a LINE", x.pass(1), STATE);
         due("pass(0) without a LINE, OUTSIDE first", x.pass(0), OUTSIDE);
@@ -424,7 +371,7 @@ public final class PromiseTest {
     }
 
     private static void off() {
-        promise = "10 off";
+        at("10 off");
         LateCopies x = new LateCopies();
         due("off without a LINE", x.off(0, true), UNKNOWN);
         read(x, "012");
@@ -448,7 +395,7 @@ public final class PromiseTest {
     }
 
     private static void exchange() {
-        promise = "11 exchange";
+        at("11 exchange");
         LateCopies x = new LateCopies();
         due("exchange without a LINE", x.exchange(0, 1), UNKNOWN);
         read(x, "0123");
@@ -615,7 +562,7 @@ public final class PromiseTest {
     }
 
     private static void rumour() {
-        promise = "12 rumour";
+        at("12 rumour");
         LateCopies x = new LateCopies();
         due("rumour without a LINE", x.rumour(0, 1), UNKNOWN);
         read(x, "0123");
@@ -704,7 +651,7 @@ public final class PromiseTest {
     }
 
     private static void has() {
-        promise = "13 has";
+        at("13 has");
         LateCopies x = new LateCopies();
         due("has without a LINE", x.has(0, 0, 0), UNKNOWN);
         read(x, "01");
@@ -730,7 +677,7 @@ public final class PromiseTest {
     }
 
     private static void newest() {
-        promise = "14 newest";
+        at("14 newest");
         LateCopies x = new LateCopies();
         due("newest without a LINE", x.newest(0, 0), UNKNOWN);
         read(x, "01");
@@ -770,7 +717,7 @@ public final class PromiseTest {
     }
 
     private static void alike() {
-        promise = "15 alike";
+        at("15 alike");
         LateCopies x = new LateCopies();
         due("alike without a LINE", x.alike(0, 0), UNKNOWN);
         read(x, "055");
@@ -809,7 +756,7 @@ public final class PromiseTest {
     }
 
     private static void risen() {
-        promise = "16 risen";
+        at("16 risen");
         LateCopies x = new LateCopies();
         due("risen(0) without a LINE", x.risen(0), 0);
         due("risen(4)", x.risen(4), UNKNOWN);
@@ -861,7 +808,7 @@ public final class PromiseTest {
     }
 
     private static void partner() {
-        promise = "17 partner";
+        at("17 partner");
         LateCopies x = new LateCopies();
         due("partner without a LINE", x.partner(0, 0, 0), UNKNOWN);
         due("partner without a LINE, UNKNOWN first", x.partner(0, -1, 0), UNKNOWN);
@@ -876,7 +823,7 @@ public final class PromiseTest {
         due("SEED of 1", x.partner(0, 1, 1), 1103527590);
         due("SEED of 5", x.partner(0, 5, 1), 1222621274);
         due("SEED of the most", x.partner(0, Integer.MAX_VALUE, 1),
-            (1103515245L * Integer.MAX_VALUE + 12345L) % 2147483648L);
+            nextSeed(Integer.MAX_VALUE));
         due("DRAW 0", x.partner(0, 0, 0), 1);
         x.off(1, true);
         x.off(2, true);
@@ -902,22 +849,19 @@ public final class PromiseTest {
     }
 
     private static void rankingIs(String text, int site, int offBits, int[] ranking) {
-        int[] weights = {60, 30, 20, 15, 12};
         LateCopies x = on(text);
-        for (int other = 0; other < text.length(); other++) {
-            x.off(other, (offBits >> other & 1) == 1);
-        }
+        offOnly(x, offBits);
         int total = 0;
         for (int rank = 0; rank < ranking.length; rank++) {
-            total += weights[rank];
+            total += WEIGHTS[rank];
         }
         long seed = 1;
         for (int n = 0; n < 150; n++) {
-            long next = (1103515245L * seed + 12345L) % 2147483648L;
+            long next = nextSeed(seed);
             long left = next / 65536 % total;
             int rank = 0;
-            while (left >= weights[rank]) {
-                left -= weights[rank];
+            while (left >= WEIGHTS[rank]) {
+                left -= WEIGHTS[rank];
                 rank++;
             }
             due("partner(" + site + ", " + seed + ", 0) of " + text, x.partner(site, (int) seed, 0), ranking[rank]);
@@ -927,7 +871,7 @@ public final class PromiseTest {
     }
 
     private static void settle() {
-        promise = "18 settle";
+        at("18 settle");
         LateCopies x = new LateCopies();
         due("settle without a LINE", x.settle(0, false, 0), STATE);
         due("settle(-1) without a LINE, OUTSIDE first", x.settle(-1, false, 0), OUTSIDE);
@@ -987,7 +931,7 @@ public final class PromiseTest {
                 boolean rumours = seed % 2 == 1;
                 LateCopies x = busy(text);
                 LateCopies twin = busy(text);
-                long[] played = play(twin, seed, rumours);
+                long[] played = play(twin, busy(text), seed, rumours);
                 outcome(x, seed, rumours, (int) played[0], (int) played[1], played[2]);
             }
         }
@@ -1010,41 +954,6 @@ public final class PromiseTest {
         return x;
     }
 
-    private static long[] play(LateCopies x, int firstSeed, boolean rumours) {
-        int seed = firstSeed;
-        int before = x.count(4);
-        int rounds = 0;
-        while (!allOnAlike(x) && rounds < 40) {
-            x.pass(1);
-            for (int site = 0; site < x.count(1); site++) {
-                if ((x.count(3) >> site & 1) == 1) {
-                    continue;
-                }
-                int other = x.partner(site, seed, 0);
-                seed = x.partner(site, seed, 1);
-                if (rumours) {
-                    x.rumour(site, other);
-                } else {
-                    x.exchange(site, other);
-                }
-            }
-            rounds++;
-        }
-        return new long[] {allOnAlike(x) ? rounds : NONE, x.count(4) - before, seed};
-    }
-
-    private static boolean allOnAlike(LateCopies x) {
-        for (int a = 0; a < x.count(1); a++) {
-            for (int b = 0; b < a; b++) {
-                boolean on = (x.count(3) >> a & 1) == 0 && (x.count(3) >> b & 1) == 0;
-                if (on && x.alike(a, b) == 0) {
-                    return false;
-                }
-            }
-        }
-        return true;
-    }
-
     /** NOW goes on in a ROUND: a CERTIFICATE may be GONE by it, also above 9999. */
     private static void settleLate() {
         LateCopies x = on("059");
@@ -1064,21 +973,6 @@ public final class PromiseTest {
         outcome(y, 3, true, 1, 0, seedAfter(3, 2));
         due("it is there still", y.has(0, 0, 0), 2);
         due("NOW stays", y.count(2), 9999);
-    }
-
-    private static long seedAfter(long first, int draws) {
-        long seed = first;
-        for (int n = 0; n < draws; n++) {
-            seed = (1103515245L * seed + 12345L) % 2147483648L;
-        }
-        return seed;
-    }
-
-    private static void outcome(LateCopies x, int seed, boolean rumours, int rounds, int traffic, long then) {
-        String call = "settle(" + seed + ", " + rumours + ", ";
-        due(call + "0)", x.settle(seed, rumours, 0), rounds);
-        due(call + "1)", x.settle(seed, rumours, 1), traffic);
-        due(call + "2)", x.settle(seed, rumours, 2), then);
     }
 
     private static void settleChangesNothing() {
@@ -1104,7 +998,7 @@ public final class PromiseTest {
     }
 
     private static void count() {
-        promise = "19 count";
+        at("19 count");
         LateCopies x = on("0159");
         due("count(-1)", x.count(-1), OUTSIDE);
         due("count(12)", x.count(12), OUTSIDE);
@@ -1122,22 +1016,24 @@ public final class PromiseTest {
         x.off(1, true);
         x.off(3, true);
         write(x, "ab");
-        int[] counts = {2, 4, 5, 10, 3, 1, 1, 2, 3, 3, 4, 1};
-        for (int what = 0; what < counts.length; what++) {
-            due("count(" + what + ")", x.count(what), counts[what]);
-        }
+        counts(x, 0, 2, 4, 5, 10, 3, 1, 1, 2, 3, 3, 4, 1);
         read(x, "99");
         due("LINES read", x.count(11), 2);
     }
 
     private static void digest() {
-        promise = "20 digest";
+        at("20 digest");
         LateCopies x = new LateCopies();
-        due("digest() of a new object", x.digest(), digestByCalls(x));
+        due("digest() of a new object", x.digest(), digestByCalls(x, ""));
         write(x, "0z");
-        due("digest() with letters", x.digest(), digestByCalls(x));
+        due("digest() with letters", x.digest(), digestByCalls(x, "0z"));
         read(x, "0159");
-        due("digest() of a new LINE", x.digest(), digestByCalls(x));
+        due("digest() of a new LINE", x.digest(), digestByCalls(x, ""));
+        digestOfMuch();
+    }
+
+    private static void digestOfMuch() {
+        LateCopies x = on("0159");
         x.set(0, 2);
         x.put(3, 0, 1);
         x.put(2, 1, 5);
@@ -1147,50 +1043,7 @@ public final class PromiseTest {
         x.pass(3);
         write(x, "1 ~");
         x.off(1, true);
-        due("digest() of much", x.digest(), digestByCalls(x));
-        due("digest() again", x.digest(), digestByCalls(x));
-        LateCopies empty = new LateCopies();
-        long h = 1741;
-        int[] numbers = {0, 0, 0, 0, 0, 0, 0, 0, 0, 0, 0, 10, 40, 2, 5, 0};
-        for (int number : numbers) {
-            h = 31 * h + number;
-        }
-        due("digest() of a new object, written out", empty.digest(), h);
-    }
-
-    private static long digestByCalls(LateCopies x) {
-        long h = 1741;
-        for (int site = 0; site < x.count(1); site++) {
-            for (int key = 0; key < 4; key++) {
-                for (int what = 0; what <= 6; what++) {
-                    h = 31 * h + x.has(site, key, what);
-                }
-            }
-            for (int kind = 0; kind <= 2; kind++) {
-                h = 31 * h + x.newest(site, kind);
-            }
-            for (int other = 0; other < x.count(1); other++) {
-                h = 31 * h + x.alike(site, other);
-            }
-        }
-        for (int key = 0; key < 4; key++) {
-            h = 31 * h + x.risen(key);
-        }
-        for (int n = 0; n < 6 && x.count(1) > 0; n++) {
-            h = 31 * h + x.settle(7, n >= 3, n % 3);
-        }
-        for (char letter : pageOf(x).toCharArray()) {
-            h = 31 * h + letter;
-        }
-        for (int what = 0; what <= 11; what++) {
-            h = 31 * h + x.count(what);
-        }
-        return h;
-    }
-
-    /** No call tells the letters themselves; the texts that digest() above writes are known by their length. */
-    private static String pageOf(LateCopies x) {
-        String[] byLength = {"", "?", "0z", "1 ~"};
-        return byLength[x.count(0)];
+        due("digest() of much", x.digest(), digestByCalls(x, "1 ~"));
+        due("digest() again", x.digest(), digestByCalls(x, "1 ~"));
     }
 }
