@@ -106,11 +106,40 @@ class Asking {
         due(call + "2)", x.settle(seed, rumours, 2), then);
     }
 
+    /** Of KEY 0 a CERTIFICATE that sleeps and its VALUE, of others VALUES. */
+    static LateCopies busy(String text) {
+        LateCopies x = on(text);
+        int last = text.length() - 1;
+        x.set(0, 3);
+        x.put(last, 0, 1);
+        x.exchange(0, last);
+        x.put(1, 2, 2);
+        x.exchange(1, last);
+        x.remove(0, 0, 2);
+        x.pass(4);
+        x.put(0, 1, 4);
+        x.put(last, 1, 5);
+        x.remove(1, 2, 3);
+        return x;
+    }
+
+    /** What settle() tells is what comes of it as its ROUNDS are played with the other calls. */
+    static void asPlayed(String text, int seed, boolean rumours, int offBits) {
+        LateCopies x = busy(text);
+        LateCopies twin = busy(text);
+        LateCopies guide = on(text);
+        offOnly(x, offBits);
+        offOnly(twin, offBits);
+        offOnly(guide, offBits);
+        long[] played = play(twin, guide, seed, rumours);
+        outcome(x, seed, rumours, (int) played[0], (int) played[1], played[2]);
+    }
+
     /**
      * SETTLING played with the calls that change the object: ROUNDS, TRAFFIC by it, the SEED then. The guide, of
      * the same LINE with the same SITES OFF, tells PARTNERS, for either of both has its 512 calls alone.
      */
-    static long[] play(LateCopies x, LateCopies guide, int firstSeed, boolean rumours) {
+    private static long[] play(LateCopies x, LateCopies guide, int firstSeed, boolean rumours) {
         int seed = firstSeed;
         int before = x.count(4);
         int sites = x.count(1);

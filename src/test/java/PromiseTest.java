@@ -923,35 +923,13 @@ public final class PromiseTest extends Asking {
         outcome(z, 9, true, 0, 0, 9);
     }
 
-    /** What settle() tells is what comes of it as its ROUNDS are played with the other calls. */
     private static void settleAsPlayed() {
         String[] texts = {"0159", "113377", "000000", "0125", "019", "077889"};
         for (String text : texts) {
             for (int seed = 0; seed < 12; seed++) {
-                boolean rumours = seed % 2 == 1;
-                LateCopies x = busy(text);
-                LateCopies twin = busy(text);
-                long[] played = play(twin, busy(text), seed, rumours);
-                outcome(x, seed, rumours, (int) played[0], (int) played[1], played[2]);
+                asPlayed(text, seed, seed % 2 == 1, 4);
             }
         }
-    }
-
-    private static LateCopies busy(String text) {
-        LateCopies x = on(text);
-        int last = text.length() - 1;
-        x.set(0, 3);
-        x.put(last, 0, 1);
-        x.exchange(0, last);
-        x.put(1, 2, 2);
-        x.exchange(1, 2);
-        x.off(2, true);
-        x.remove(0, 0, 2);
-        x.pass(3);
-        x.put(0, 1, 4);
-        x.put(last, 1, 5);
-        x.remove(1, 2, 3);
-        return x;
     }
 
     /** NOW goes on in a ROUND: a CERTIFICATE may be GONE by it, also above 9999. */

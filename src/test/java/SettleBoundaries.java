@@ -15,23 +15,6 @@ final class SettleBoundaries extends Boundaries {
         settleState();
     }
 
-    /** Of KEY 0 a CERTIFICATE that sleeps and its VALUE, of others VALUES, one SITE of them OFF. */
-    private static LateCopies busy(String text) {
-        LateCopies x = on(text);
-        int last = text.length() - 1;
-        x.set(0, 3);
-        x.put(last, 0, 1);
-        x.exchange(0, last);
-        x.put(1, 2, 2);
-        x.exchange(1, last);
-        x.remove(0, 0, 2);
-        x.pass(4);
-        x.put(0, 1, 4);
-        x.put(last, 1, 5);
-        x.remove(1, 2, 3);
-        return x;
-    }
-
     private static void asItWouldBe() {
         sentence(18, "SETTLING by a SEED, as it would be:");
         LateCopies x = busy("0159");
@@ -197,18 +180,6 @@ final class SettleBoundaries extends Boundaries {
                 asPlayed(text, seed, seed % 2 == 1, seed % 4 > 1 && text.length() > 2 ? 4 : 0);
             }
         }
-    }
-
-    /** What settle() tells is what comes of it as its ROUNDS are played with the other calls. */
-    private static void asPlayed(String text, int seed, boolean rumours, int offBits) {
-        LateCopies x = busy(text);
-        LateCopies twin = busy(text);
-        LateCopies guide = on(text);
-        offOnly(x, offBits);
-        offOnly(twin, offBits);
-        offOnly(guide, offBits);
-        long[] played = play(twin, guide, seed, rumours);
-        outcome(x, seed, rumours, (int) played[0], (int) played[1], played[2]);
     }
 
     private static void endsBehindARound() {
