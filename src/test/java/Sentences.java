@@ -49,6 +49,11 @@ final class Sentences {
         return names.getOrDefault(promise, "?");
     }
 
+    String textOf(int promise) {
+        int[] place = sections.get(promise);
+        return place == null ? "" : document.substring(place[0], place[1]);
+    }
+
     /** Whether the document says these words of this promise, or of all; they are taken as named then. */
     boolean name(int promise, String words) {
         List<int[]> places = new ArrayList<>();
